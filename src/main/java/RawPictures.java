@@ -459,7 +459,7 @@ public final class RawPictures {
         if (k == recipe.fAt) {
             return OTHER_STAGE;
         }
-        meter.compare(room.sheetOf(recipe.size), room.lastWithout(k));
+        meter.compare(room.sheetOf(recipe.size), room.lastWith(k, NONE));
         return what == 0 ? meter.unlikeLevels : meter.greatestDifference;
     }
 
@@ -823,7 +823,7 @@ public final class RawPictures {
         }
 
         int numberOf(int k, int i) {
-            return i >= 0 && i < numbersOf(k) ? number[start[k] + i] : 0;
+            return has(k) && i >= 0 && i < start[k + 1] - start[k] ? number[start[k] + i] : 0;
         }
     }
 
@@ -966,8 +966,10 @@ public final class RawPictures {
 
         void layRaw(Mosaic mosaic) {
             isFull = false;
-            for (int square = 0; square < AREA; square++) {
-                level[square] = 16 * mosaic.value[square];
+            for (int y = 0; y < mosaic.h; y++) {
+                for (int x = 0; x < mosaic.w; x++) {
+                    level[y * SIDE + x] = 16 * mosaic.value[y * SIDE + x];
+                }
             }
         }
 
@@ -1019,27 +1021,22 @@ public final class RawPictures {
             return sheets[wanted];
         }
 
-        Sheet lastWithout(int k) {
-            return lastFrom(k + 1, sheetOf(k - 1));
-        }
-
+        /** What the last stage would leave without stage k, or with another first number of it. */
         Sheet lastWith(int k, int firstNumber) {
-            Sheet ahead = sheetOf(k - 1);
-            apply(k, firstNumber, ahead, oneTrial);
-            return lastFrom(k + 1, oneTrial);
-        }
-
-        private Sheet lastFrom(int k, Sheet ahead) {
-            Sheet from = ahead;
+            Sheet from = sheetOf(k - 1);
             for (int next = k; next <= recipe.size; next++) {
-                Sheet to = from == oneTrial ? otherTrial : oneTrial;
-                apply(next, recipe.numberOf(next, 0), from, to);
-                from = to;
+                if (next > k || firstNumber != NONE) {
+                    Sheet to = from == oneTrial ? otherTrial : oneTrial;
+                    apply(next, next == k ? firstNumber : recipe.numberOf(next, 0), from, to);
+                    from = to;
+                }
             }
             return from;
         }
 
         private void apply(int k, int first, Sheet from, Sheet to) {
+            int second = recipe.numberOf(k, 1);
+            int third = recipe.numberOf(k, 2);
             to.isFull = from.isFull || recipe.letterOf(k) == 'f';
             switch (recipe.letterOf(k)) {
                 case 'b':
@@ -1057,35 +1054,15 @@ public final class RawPictures {
                 case 'f':
                     early.fillMosaic(from, to, first);
                     break;
-                case 'p':
-                    late.evenBlocks(from, to, first, recipe.numberOf(k, 1));
-                    break;
-                case 'y':
-                    late.setTones(from, to, first, recipe.numberOf(k, 1), recipe.numberOf(k, 2));
-                    break;
-                case 'n':
-                    late.takeNoise(from, to, first, recipe.numberOf(k, 1));
-                    break;
-                case 's':
-                    late.sharpen(from, to, first, recipe.numberOf(k, 1));
-                    break;
                 case 'v':
                     late.voteDown(from, to, first);
                     break;
-                default:
-                    applyByColour(k, first, from, to);
-                    break;
-            }
-        }
-
-        private void applyByColour(int k, int first, Sheet from, Sheet to) {
-            switch (recipe.letterOf(k)) {
                 case 'w':
                     late.findWhite(from, first);
                     late.multiply(from, to, late.gainOfRed, 256, late.gainOfBlue, 256);
                     break;
                 case 'g':
-                    late.multiply(from, to, first, recipe.numberOf(k, 1), recipe.numberOf(k, 2), 16);
+                    late.multiply(from, to, first, second, third, 16);
                     break;
                 case 'm':
                     late.stretch(from, to, first);
@@ -1095,6 +1072,18 @@ public final class RawPictures {
                     break;
                 case 't':
                     late.bend(from, to, recipe, k);
+                    break;
+                case 'p':
+                    late.evenBlocks(from, to, first, second);
+                    break;
+                case 'y':
+                    late.setTones(from, to, first, second, third);
+                    break;
+                case 'n':
+                    late.takeNoise(from, to, first, second);
+                    break;
+                case 's':
+                    late.sharpen(from, to, first, second);
                     break;
                 default:
                     break;
@@ -1111,8 +1100,10 @@ public final class RawPictures {
         }
 
         void takeBlack(Sheet from, Sheet to, int n) {
-            for (int square = 0; square < AREA; square++) {
-                to.level[square] = clipped(from.level[square] - 16 * n);
+            for (int y = 0; y < mosaic.h; y++) {
+                for (int x = 0; x < mosaic.w; x++) {
+                    to.level[y * SIDE + x] = clipped(from.level[y * SIDE + x] - 16 * n);
+                }
             }
         }
 
@@ -1134,10 +1125,11 @@ public final class RawPictures {
         }
 
         int middleOf(Sheet sheet, int x, int y) {
-            int west = levelAt(sheet, x - 2, y);
-            int east = levelAt(sheet, x + 2, y);
-            int north = levelAt(sheet, x, y - 2);
-            int south = levelAt(sheet, x, y + 2);
+            int[] level = sheet.level;
+            int west = level[y * SIDE + mirrored(x - 2, mosaic.w)];
+            int east = level[y * SIDE + mirrored(x + 2, mosaic.w)];
+            int north = level[mirrored(y - 2, mosaic.h) * SIDE + x];
+            int south = level[mirrored(y + 2, mosaic.h) * SIDE + x];
             int greatest = Math.max(Math.max(west, east), Math.max(north, south));
             int least = Math.min(Math.min(west, east), Math.min(north, south));
             return (west + east + north + south - greatest - least) / 2;
@@ -1183,11 +1175,14 @@ public final class RawPictures {
 
         /** As way() answers it: 0 west and east, 1 north and south, 2 all four. */
         int wayOf(Sheet sheet, int x, int y) {
-            int twice = 2 * sheet.level[y * SIDE + x];
-            int across = Math.abs(levelAt(sheet, x - 1, y) - levelAt(sheet, x + 1, y))
-                + Math.abs(twice - levelAt(sheet, x - 2, y) - levelAt(sheet, x + 2, y));
-            int down = Math.abs(levelAt(sheet, x, y - 1) - levelAt(sheet, x, y + 1))
-                + Math.abs(twice - levelAt(sheet, x, y - 2) - levelAt(sheet, x, y + 2));
+            int[] level = sheet.level;
+            int row = y * SIDE;
+            int nearAcross = level[row + mirrored(x - 1, mosaic.w)] - level[row + mirrored(x + 1, mosaic.w)];
+            int farAcross = level[row + mirrored(x - 2, mosaic.w)] + level[row + mirrored(x + 2, mosaic.w)];
+            int nearDown = level[mirrored(y - 1, mosaic.h) * SIDE + x] - level[mirrored(y + 1, mosaic.h) * SIDE + x];
+            int farDown = level[mirrored(y - 2, mosaic.h) * SIDE + x] + level[mirrored(y + 2, mosaic.h) * SIDE + x];
+            int across = Math.abs(nearAcross) + Math.abs(2 * level[row + x] - farAcross);
+            int down = Math.abs(nearDown) + Math.abs(2 * level[row + x] - farDown);
             if (across < down) {
                 return 0;
             }
@@ -1195,11 +1190,12 @@ public final class RawPictures {
         }
 
         private int greenOf(Sheet sheet, int x, int y, int k) {
+            int[] level = sheet.level;
             if (mosaic.colourOf(x, y) == GREEN) {
-                return sheet.level[y * SIDE + x];
+                return level[y * SIDE + x];
             }
-            int across = levelAt(sheet, x - 1, y) + levelAt(sheet, x + 1, y);
-            int down = levelAt(sheet, x, y - 1) + levelAt(sheet, x, y + 1);
+            int across = level[y * SIDE + mirrored(x - 1, mosaic.w)] + level[y * SIDE + mirrored(x + 1, mosaic.w)];
+            int down = level[mirrored(y - 1, mosaic.h) * SIDE + x] + level[mirrored(y + 1, mosaic.h) * SIDE + x];
             int way = k == 1 ? wayOf(sheet, x, y) : 2;
             if (way == 2) {
                 return (across + down) / 4;
@@ -1228,10 +1224,6 @@ public final class RawPictures {
         private int aboveGreen(Sheet from, Sheet to, int x, int y) {
             int square = mirrored(y, mosaic.h) * SIDE + mirrored(x, mosaic.w);
             return from.level[square] - to.level[GREEN * AREA + square];
-        }
-
-        private int levelAt(Sheet sheet, int x, int y) {
-            return sheet.level[mirrored(y, mosaic.h) * SIDE + mirrored(x, mosaic.w)];
         }
     }
 
@@ -1322,47 +1314,63 @@ public final class RawPictures {
         }
 
         void multiply(Sheet from, Sheet to, int red, int green, int blue, int by) {
-            for (int square = 0; square < AREA && by > 0; square++) {
-                to.level[square] = clipped(from.level[square] * red / by);
-                to.level[GREEN * AREA + square] = clipped(from.level[GREEN * AREA + square] * green / by);
-                to.level[BLUE * AREA + square] = clipped(from.level[BLUE * AREA + square] * blue / by);
+            multiplyColour(from, to, RED, red, by);
+            multiplyColour(from, to, GREEN, green, by);
+            multiplyColour(from, to, BLUE, blue, by);
+        }
+
+        private void multiplyColour(Sheet from, Sheet to, int colour, int times, int by) {
+            for (int y = 0; y < mosaic.h && by > 0; y++) {
+                for (int x = 0; x < mosaic.w; x++) {
+                    int at = colour * AREA + y * SIDE + x;
+                    to.level[at] = clipped(from.level[at] * times / by);
+                }
             }
         }
 
         void stretch(Sheet from, Sheet to, int n) {
-            for (int square = 0; square < AREA; square++) {
-                int light = lightOf(from.level, square);
-                for (int at = square; at < 3 * AREA; at += AREA) {
-                    to.level[at] = clipped(light + (from.level[at] - light) * n / 16);
+            for (int y = 0; y < mosaic.h; y++) {
+                for (int x = 0; x < mosaic.w; x++) {
+                    int light = lightOf(from.level, y * SIDE + x);
+                    for (int at = y * SIDE + x; at < 3 * AREA; at += AREA) {
+                        to.level[at] = clipped(light + (from.level[at] - light) * n / 16);
+                    }
                 }
             }
         }
 
         void makePale(Sheet from, Sheet to, int n) {
-            int limit = 16 * n;
-            for (int square = 0; square < AREA; square++) {
-                int peak = greatestOf(from.level, square);
-                for (int at = square; at < 3 * AREA; at += AREA) {
-                    int level = from.level[at];
-                    boolean isPale = peak > limit && limit < TOP;
-                    to.level[at] = isPale ? level + (peak - level) * (peak - limit) / (TOP - limit) : level;
+            for (int y = 0; y < mosaic.h; y++) {
+                for (int x = 0; x < mosaic.w; x++) {
+                    int peak = greatestOf(from.level, y * SIDE + x);
+                    for (int at = y * SIDE + x; at < 3 * AREA; at += AREA) {
+                        to.level[at] = paled(from.level[at], peak, 16 * n);
+                    }
                 }
             }
+        }
+
+        private int paled(int level, int peak, int limit) {
+            boolean isTooBright = peak > limit && limit < TOP;
+            return isTooBright ? level + (peak - level) * (peak - limit) / (TOP - limit) : level;
         }
 
         void bend(Sheet from, Sheet to, Recipe recipe, int k) {
-            int points = recipe.numbersOf(k) / 2;
-            for (int at = 0; at < 3 * AREA; at++) {
-                int level = from.level[at];
-                int point = 0;
-                while (point < points - 2 && 16 * recipe.numberOf(k, 2 * point + 2) <= level) {
-                    point++;
+            for (int y = 0; y < mosaic.h; y++) {
+                for (int x = 0; x < mosaic.w; x++) {
+                    for (int at = y * SIDE + x; at < 3 * AREA; at += AREA) {
+                        to.level[at] = bent(from.level[at], recipe, k);
+                    }
                 }
-                to.level[at] = bent(level, recipe, k, point);
             }
         }
 
-        private int bent(int level, Recipe recipe, int k, int point) {
+        private int bent(int level, Recipe recipe, int k) {
+            int last = recipe.numbersOf(k) / 2 - 1;
+            int point = 0;
+            while (point < last - 1 && 16 * recipe.numberOf(k, 2 * point + 2) <= level) {
+                point++;
+            }
             int x = recipe.numberOf(k, 2 * point);
             int y = recipe.numberOf(k, 2 * point + 1);
             int wide = recipe.numberOf(k, 2 * point + 2) - x;
@@ -1380,8 +1388,10 @@ public final class RawPictures {
             }
             int many = mosaic.w * mosaic.h;
             int mean = many > 0 ? sum / many : 0;
-            for (int square = 0; square < AREA; square++) {
-                addToAll(from, to, square, (mean - plane[square]) * n / 16);
+            for (int y = 0; y < mosaic.h; y++) {
+                for (int x = 0; x < mosaic.w; x++) {
+                    addToAll(from, to, y * SIDE + x, (mean - plane[y * SIDE + x]) * n / 16);
+                }
             }
         }
 

@@ -1,3 +1,5 @@
+import java.io.PrintWriter;
+import java.io.StringWriter;
 import java.lang.reflect.Constructor;
 import java.lang.reflect.Field;
 import java.lang.reflect.Method;
@@ -7,10 +9,13 @@ import java.nio.file.Path;
 import java.util.ArrayList;
 import java.util.Arrays;
 import java.util.List;
+import java.util.Map;
 import java.util.Set;
+import java.util.TreeMap;
 import java.util.TreeSet;
 import java.util.regex.Matcher;
 import java.util.regex.Pattern;
+import java.util.spi.ToolProvider;
 
 /** The document's face, and those rules of LANGUAGE.md that a test can see. */
 public final class LanguageTest {
@@ -39,6 +44,7 @@ public final class LanguageTest {
         String source = Files.readString(Path.of("src/main/java/RawPictures.java"));
         words(source);
         methods(source);
+        depth();
         System.out.println(wrong == 0 ? "the rules that can be seen are kept" : wrong + " rules are not kept");
         if (wrong != 0) System.exit(1);
     }
@@ -106,6 +112,43 @@ public final class LanguageTest {
         while (calls.find()) {
             must(Set.of("max", "min", "abs", "bitCount", "fill", "arraycopy").contains(calls.group(2)), "call of " + calls.group());
         }
+    }
+
+    /** How deep calls go, those of the library too, by the calls that javap shows. */
+    private static void depth() {
+        Map<String, Set<String>> calls = new TreeMap<>();
+        List<String> names = new ArrayList<>(List.of("-c", "-p", "-cp", System.getProperty("java.class.path"), "RawPictures"));
+        for (Class<?> c : RawPictures.class.getDeclaredClasses()) names.add(c.getName());
+        StringWriter out = new StringWriter();
+        ToolProvider.findFirst("javap").orElseThrow().run(new PrintWriter(out), new PrintWriter(out), names.toArray(new String[0]));
+        String owner = "", method = "";
+        for (String line : out.toString().split("\n")) {
+            Matcher type = Pattern.compile("class (\\S+) \\{").matcher(line);
+            Matcher head = Pattern.compile("^  \\S.*?([\\w$]+)\\(.*\\);$").matcher(line);
+            Matcher call = Pattern.compile("// Method (?:([\\w$/]+)\\.)?\"?([\\w<>]+)\"?:").matcher(line);
+            if (type.find()) owner = type.group(1);
+            else if (head.find()) method = owner + "." + (head.group(1).equals(owner) ? "<init>" : head.group(1));
+            else if (call.find()) {
+                String target = (call.group(1) == null ? owner : call.group(1)) + "." + call.group(2);
+                calls.computeIfAbsent(method, m -> new TreeSet<>()).add(target);
+            }
+        }
+        must(calls.size() > 50, "javap shows calls");
+        for (String m : calls.keySet()) {
+            List<String> longest = deepest(m, calls, 0);
+            must(longest.size() <= 8, "no more than eight deep: " + longest);
+        }
+    }
+
+    private static List<String> deepest(String m, Map<String, Set<String>> calls, int depth) {
+        List<String> most = new ArrayList<>();
+        for (String next : depth > 30 ? Set.<String>of() : calls.getOrDefault(m, Set.of())) {
+            List<String> one = deepest(next, calls, depth + 1);
+            if (one.size() > most.size()) most = one;
+        }
+        List<String> all = new ArrayList<>(List.of(m));
+        all.addAll(most);
+        return all;
     }
 
     /** By the indents that the file keeps: a method ends at the brace below its own beginning. */

@@ -56,6 +56,7 @@ public final class PromisesTest {
         feed();
         stages();
         faults();
+        limits();
         faultsOfPoints();
         raw();
         row();
@@ -164,6 +165,13 @@ public final class PromisesTest {
         }
         due("120 bytes at most", longest.length(), 121);
         due("the first 120 bytes alone", tell(x, longest.substring(0, 120)), -1120);
+        String right = "f:0;t:0>000" + longest.substring(9, 112) + ",255>1";
+        due("a right text of 120 bytes", right.length(), 120);
+        due("it is read", tell(x, right), 2);
+        feedBytes(x, (right + "0 and more").chars().toArray());
+        due("121 of 140", x.stages(121), -1);
+        due("refused, all 140 stay", x.count(1), 140);
+        due("of 140 bytes the first 3", x.stages(3), 1);
     }
 
     private static void faults() {
@@ -213,6 +221,33 @@ public final class PromisesTest {
             due(late + " without f", tell(x, "b:0;" + late), -6004);
         }
         due("those before stay", x.count(0), 12);
+    }
+
+    /** Each number of each stage at its limits and just beyond them. */
+    private static void limits() {
+        RawPictures x = new RawPictures();
+        String[] letters = {"b", "d", "o", "l", "f", "v", "w", "h", "y", "y1", "y2", "g", "g1", "g2", "m", "p", "p1", "n",
+            "n1", "s", "s1"};
+        int[] least = {0, 0, 1, 0, 0, 1, 0, 0, 0, 0, 0, 0, 0, 0, 0, 1, 0, 0, 0, 0, 0};
+        int[] greatest = {255, 255, 4, 99, 1, 3, 255, 254, 32, 32, 32, 99, 99, 99, 99, 4, 32, 99, 99, 99, 99};
+        for (int i = 0; i < letters.length; i++) {
+            char letter = letters[i].charAt(0);
+            int at = letters[i].length() > 1 ? letters[i].charAt(1) - '0' : 0;
+            int many = "yg".indexOf(letter) >= 0 ? 3 : "pns".indexOf(letter) >= 0 ? 2 : 1;
+            String ahead = "bdolf".indexOf(letter) >= 0 ? "" : "f:0;";
+            StringBuilder start = new StringBuilder(ahead).append(letter).append(':');
+            for (int j = 0; j < at; j++) {
+                start.append("1,");
+            }
+            String rest = ",1".repeat(many - 1 - at);
+            int stages = ahead.isEmpty() ? 1 : 2;
+            due(letters[i] + " least", tell(x, start.toString() + least[i] + rest), stages);
+            due(letters[i] + " greatest", tell(x, start.toString() + greatest[i] + rest), stages);
+            due(letters[i] + " beyond", tell(x, start.toString() + (greatest[i] + 1) + rest), -3000 - start.length());
+            if (least[i] > 0) {
+                due(letters[i] + " below", tell(x, start.toString() + "0" + rest), -3000 - start.length());
+            }
+        }
     }
 
     private static void faultsOfPoints() {
@@ -399,6 +434,7 @@ public final class PromisesTest {
             feedBytes(x, 10, 20, 30, 110, 120, 130);
             x.truth(0);
             due("the truth is known", x.error(1, 0, 0), 0);
+            due("nothing is off", x.error(1, 0, 1), 0);
             x.raw(4, 4, 7);
             x.row(0);
             x.pixel(0, 0, 256);
@@ -813,6 +849,17 @@ public final class PromisesTest {
         due("red 256 to 511", x.levels(0, 0, 11), 2);
         due("red 3840 on", x.levels(0, 0, 25), 1);
         due("of green all eight", x.levels(0, 1, 10), 8);
+        x.pixel(0, 0, 255);
+        x.pixel(0, 2, 9);
+        due("the first is the greatest", x.levels(0, 0, 1), 4080);
+        due("the third is the least", x.levels(0, 0, 0), 144);
+        tell(x, "f:0;g:1,1,1");
+        x.scene(0, 1, 0);
+        due("1 is not 0", x.levels(2, 0, 5), 0);
+        due("1 is in the first band", x.levels(2, 0, 10), 16);
+        x.scene(0, 255, 0);
+        due("255 is in the first band", x.levels(2, 0, 10), 16);
+        tell(x, "f:0;g:99,16,0");
         due("TOP", x.levels(2, 0, 4) > 0 ? 1 : 0, 1);
         due("g 0 leaves 0", x.levels(2, 2, 5), 16);
         for (int what : new int[] {-1, 6, 9, 26}) {
@@ -946,6 +993,7 @@ public final class PromisesTest {
         feedBytes(x, 100, 200, 50, 0, 0, 0);
         x.truth(0);
         due("16 off everywhere", x.error(2, 0, 0), 256);
+        due("some are left by stage 2, none of the RAW", x.left(2, 0, 0, 0), 1584);
         due("the greatest", x.error(2, 1, 1), 16);
         due("squares", x.error(2, 2, 2), 4096);
         due("3 * TOP and so on is a long", x.error(3, 2, 2), 16L * (4095 - 800) * (4095 - 800));
