@@ -1021,7 +1021,7 @@ public final class RawPictures {
             return sheets[wanted];
         }
 
-        /** What the last stage would leave without stage k, or with another first number of it. */
+        /** What the last stage would leave with another first number of stage k; NONE: without stage k. */
         Sheet lastWith(int k, int firstNumber) {
             Sheet from = sheetOf(k - 1);
             for (int next = k; next <= recipe.size; next++) {
