@@ -79,13 +79,15 @@ public final class ModelTest {
     }
 
     private boolean feedText(String text) throws Exception {
+        // what stands behind the text is not read, even if it would fit
+        char behind = "a05;:,>".charAt(random.nextInt(7));
         for (int at = 0; at < text.length(); at += 20) {
             Object[] five = new Object[5];
             for (int i = 0; i < 5; i++) {
                 int four = 0;
                 for (int j = 0; j < 4; j++) {
                     int place = at + 4 * i + j;
-                    four = four << 8 | (place < text.length() ? text.charAt(place) : 97);
+                    four = four << 8 | (place < text.length() ? text.charAt(place) : behind);
                 }
                 five[i] = four;
             }

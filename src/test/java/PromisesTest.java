@@ -157,6 +157,11 @@ public final class PromisesTest {
         due("0 empties the tape", x.count(1), 0);
         due("no stages", x.count(0), 0);
         due("no f", x.count(3), 0);
+        feedBytes(x, "b:15;f:0".chars().toArray());
+        due("no further than n", x.stages(3), 1);
+        due("a digit behind n is not read", x.stage(1, 1), 1);
+        feedBytes(x, "b:15".chars().toArray());
+        due("n ends ahead of the number", x.stages(2), -1002);
         due("zeros ahead", tell(x, "b:007"), 1);
         due("number with zeros ahead", x.stage(1, 1), 7);
         StringBuilder longest = new StringBuilder("f:0;t:0>0");
@@ -304,7 +309,7 @@ public final class PromisesTest {
         due("VALUE 255", x.left(0, 3, 3, 2), 4080);
         due("DEAD stays", x.rawIs(3), 1);
         x.raw(16, 4, 0);
-        x.feed(1, 2, 3, 4, 5);
+        x.feed(1, 2, 3, 4, -1);
         yes("20 bytes for 16", x.row(1));
         due("16 alone", x.rawIs(4), 10);
     }
@@ -671,6 +676,13 @@ public final class PromisesTest {
         due("no d", x.found(2, 0), -3);
         due("no such what first", x.found(2, 4), -1);
         due("what -1", x.found(1, -1), -1);
+        RawPictures wide = with(16, 16, 0, "d:255");
+        wide.dead(0, 1, true);
+        wide.dead(15, 15, true);
+        due("of 16 by 16, each once", wide.found(1, 0), 2);
+        due("DEAD, each once", wide.found(1, 1), 2);
+        due("last of all", wide.found(1, 3), 255);
+        due("two groups", wide.groups(1, 0), 2);
         due("stage 0", x.found(0, 0), -1);
         due("stage 3", x.found(3, 0), -1);
     }
@@ -785,6 +797,11 @@ public final class PromisesTest {
         due("64 at least", x.white(3, 0), 64);
         due("no w", x.white(1, 0), -3);
         due("what 3 first", x.white(1, 3), -1);
+        tell(x, "f:0;t:0>250,255>251;w:0");
+        x.scene(0, 15, 0);
+        due("4000 + 240 by 255 is grey", x.white(3, 2), 16);
+        x.scene(0, 16, 0);
+        due("4000 + 256 by 255 is not", x.white(3, 2), 0);
         due("stage 0", x.white(0, 0), -1);
         due("stage 4", x.white(4, 0), -1);
     }
