@@ -1,56 +1,5 @@
 /** For each promise of the document its ordinary answers, the edges that it names, and wrong inputs; worked out by hand. */
-public final class PromisesTest {
-    private static int wrong = 0;
-
-    private static void due(String what, long got, long want) {
-        if (got != want) {
-            wrong++;
-            System.out.println(what + " answered " + got + ", due is " + want);
-        }
-    }
-
-    private static void yes(String what, boolean got) {
-        due(what, got ? 1 : 0, 1);
-    }
-
-    private static void no(String what, boolean got) {
-        due(what, got ? 1 : 0, 0);
-    }
-
-    /** Feeds the bytes with zeros behind them up to the next twenty. */
-    private static void feedBytes(RawPictures x, int... bytes) {
-        for (int at = 0; at < bytes.length; at += 20) {
-            int[] five = new int[5];
-            for (int i = 0; i < 20; i++) {
-                five[i / 4] = five[i / 4] << 8 | (at + i < bytes.length ? bytes[at + i] & 255 : 0);
-            }
-            x.feed(five[0], five[1], five[2], five[3], five[4]);
-        }
-    }
-
-    private static int tell(RawPictures x, String text) {
-        feedBytes(x, text.chars().toArray());
-        return x.stages(text.length());
-    }
-
-    private static RawPictures with(int w, int h, int phase, String text) {
-        RawPictures x = new RawPictures();
-        x.raw(w, h, phase);
-        if (tell(x, text) < 0) {
-            wrong++;
-            System.out.println("no stages: " + text);
-        }
-        return x;
-    }
-
-    /** Rows told as numbers; the stages stay. */
-    private static void rows(RawPictures x, int[]... rows) {
-        for (int y = 0; y < rows.length; y++) {
-            feedBytes(x, rows[y]);
-            x.row(y);
-        }
-    }
-
+public final class PromisesTest extends Bench {
     public static void main(String[] args) {
         newObject();
         feed();
@@ -99,10 +48,7 @@ public final class PromisesTest {
         keepAndUndo();
         check();
         count();
-        System.out.println(wrong == 0 ? "all promises hold" : wrong + " answers are not as due");
-        if (wrong != 0) {
-            System.exit(1);
-        }
+        end("all promises hold");
     }
 
     private static void newObject() {
