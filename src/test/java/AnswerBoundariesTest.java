@@ -1,3 +1,6 @@
+import java.util.HashSet;
+import java.util.Set;
+
 /** What the calls answer at their limits: a test for each sentence that names a boundary (promises 13 to 34). */
 public final class AnswerBoundariesTest extends Bench {
     public static void main(String[] args) {
@@ -143,6 +146,13 @@ public final class AnswerBoundariesTest extends Bench {
         says("14: FOUND by STAGE k, by what is ahead of it");
         due("by the second the DEAD ones alone", x.found(2, 0), 2);
         due("the last of these", x.found(2, 3), 16);
+        int[][] shapes = {{4, 16}, {16, 4}};
+        for (int[] shape : shapes) {
+            x = with(shape[0], shape[1], 0, "d:255");
+            x.dead(shape[0] - 1, shape[1] - 1, true);
+            due("the last of all is the first", x.found(1, 2), 16 * (shape[1] - 1) + shape[0] - 1);
+            due("and the last", x.found(1, 3), 16 * (shape[1] - 1) + shape[0] - 1);
+        }
         says("14: -3: it is no d; NONE: no such ones");
         tell(x, "b:0;d:255;o:1;l:1;f:0");
         for (int k : new int[] {1, 3, 4, 5}) {
@@ -209,6 +219,17 @@ public final class AnswerBoundariesTest extends Bench {
         x.dead(1, 2, true);
         due("0, 1 and 1, 2 and 0, 3", x.groups(1, 0), 3);
         due("of three, the largest", x.groups(1, 1), 3);
+        says("15: round a bend, past one that is two SQUARES away");
+        x = with(6, 6, 0, "d:255");
+        int[][] bend = {{0, 0}, {0, 1}, {0, 2}, {1, 3}, {2, 2}};
+        for (int[] b : bend) {
+            x.dead(b[0], b[1], true);
+        }
+        due("one", x.groups(1, 0), 1);
+        due("of five", x.groups(1, 1), 5);
+        x.dead(2, 0, true);
+        due("two", x.groups(1, 0), 2);
+        due("of five still", x.groups(1, 1), 5);
         says("15: -3: it is no d; NONE: no such ones");
         tell(x, "b:1;d:1;f:0");
         due("b", x.groups(1, 0), -3);
@@ -229,6 +250,7 @@ public final class AnswerBoundariesTest extends Bench {
         due("row 0, less than b", x.dark(2, 0), 0);
         due("row 1: 0 and 16", x.dark(2, 1), 8);
         due("row 15: 224 and 464", x.dark(2, 15), 344);
+        due("it is taken off of row 15", x.left(2, 3, 15, 2), 1568 - 344);
         due("no row 16", x.dark(2, 16), -1);
         due("no row -1", x.dark(2, -1), -1);
         due("b", x.dark(1, 0), -3);
@@ -292,8 +314,12 @@ public final class AnswerBoundariesTest extends Bench {
             due("no f:1, no such SQUARE: NONE comes first: " + text, x.way(6, 0), -1);
         }
         says("18: by what is ahead of f");
-        tell(x, "b:255;f:1");
+        tell(x, "b:0;b:255;f:1");
+        x.scene(1, 30, 0);
         due("b:255 leaves all alike", x.way(2, 2), 2);
+        due("all are", x.ways(2), 12);
+        tell(x, "b:255;b:0;f:1");
+        due("the first b, too", x.way(2, 2), 2);
     }
 
     private static void waysTogether() {
@@ -374,6 +400,11 @@ public final class AnswerBoundariesTest extends Bench {
             due("floor " + f + " of 3, 3", x.tone(2, f, 3, 3), floors[1][f]);
         }
         due("of the second: FLOOR 1 alone", x.tone(3, 4, 3, 3), 1575);
+        x.scene(4, 0, 255);
+        for (int i = 0; i < 16; i++) {
+            int light = (x.left(1, i % 4, i / 4, 0) + x.left(1, i % 4, i / 4, 2) + 2 * x.left(1, i % 4, i / 4, 1)) / 4;
+            due("floor 0 is LIGHT at " + i, x.tone(2, 0, i % 4, i / 4), light);
+        }
         due("f", x.tone(1, 0, 0, 0), -3);
         due("f, TONE", x.tone(1, 4, 0, 0), -3);
         int[][] bad = {{0, 0, 0, 0}, {4, 0, 0, 0}, {1, 5, 0, 0}, {1, -1, 0, 0}, {2, 5, 0, 0}, {2, -1, 0, 0}, {2, 0, 4, 0},
@@ -435,6 +466,14 @@ public final class AnswerBoundariesTest extends Bench {
         due("0", x.levels(2, 2, 5), 256);
         due("the greatest of 0", x.levels(2, 2, 1), 0);
         due("the least of TOP", x.levels(2, 0, 0), 4095);
+        x.raw(4, 4, 0);
+        tell(x, "f:0;g:1,1,1");
+        rows(x, new int[] {0, 0, 0, 63}, new int[] {64, 0, 65, 0}, new int[] {0, 0, 0, 63}, new int[] {64, 0, 65, 0});
+        Set<Integer> unlike = new HashSet<>();
+        for (int i = 0; i < 16; i++) {
+            unlike.add(x.left(2, i % 4, i / 4, 1));
+        }
+        due("unlike ones, 0, 63, 64, 65 among them", x.levels(2, 1, 3), unlike.size());
         says("23: (ahead of f: of SQUARES of it alone)");
         x.raw(4, 4, 3);
         x.scene(5, 7, 200);
@@ -798,6 +837,12 @@ public final class AnswerBoundariesTest extends Bench {
         due("all three", x.unlike(2, 3, 0), 768);
         x.pixel(3, 3, 0);
         due("one of them was 0 before", x.unlike(0, 1, 0), 255);
+        tell(x, "f:0;t:0>0,255>254");
+        x.scene(0, 1, 0);
+        due("by 1", x.unlike(1, 2, 0), 768);
+        due("1 is the greatest", x.unlike(1, 2, 1), 1);
+        due("without it", x.without(2, 0), 768);
+        tell(x, "b:1;f:0;g:0,0,0");
         says("32: -3: one is ahead of f alone; NONE: no such ones");
         due("the RAW and f", x.unlike(0, 2, 0), -3);
         due("f and the RAW", x.unlike(2, 0, 1), -3);
@@ -887,12 +932,11 @@ public final class AnswerBoundariesTest extends Bench {
         tell(x, "f:0;w:0;m:99");
         plain(x, 100, 106, 100);
         due("GREY by 6", x.best(2, 1), 6);
-        tell(x, "f:0;m:8");
-        plain(x, 100, 100, 116);
-        due("256 is not more than 256", x.best(2, 1), 0);
-        tell(x, "f:0;w:0;g:32,16,32");
-        plain(x, 100, 100, 100);
-        due("none is the best: 0", x.best(2, 1), 0);
+        plain(x, 20, 24, 20);
+        tell(x, "f:0;w:0;g:64,64,64");
+        due("1536 and 1280: 256 is not FALSE", x.best(2, 1), 0);
+        tell(x, "f:0;w:0;g:13,13,13;g:79,79,79");
+        due("1540 and 1283: 257 is FALSE, but GREY by 4", x.best(2, 1), 4);
         says("34: NOISE of all three COLOURS");
         RawPictures y = with(4, 4, 0, "f:0;n:0,0");
         y.scene(2, 0, 255);

@@ -426,7 +426,8 @@ public final class StageBoundariesTest extends Bench {
         says("w: GAIN: 256 times all GREENS by all REDS, by all BLUES, 64 at least, 1024 at most; without GREY ones 256");
         RawPictures x = with(4, 4, 0, "f:0;w:255");
         int[][] sets = {{100, 100, 100, 256, 256}, {50, 54, 49, 276, 282}, {248, 62, 62, 64, 256}, {244, 62, 247, 65, 64},
-            {250, 62, 249, 64, 64}, {62, 248, 248, 1024, 256}, {63, 248, 62, 1007, 1024}, {60, 248, 61, 1024, 1024}};
+            {250, 62, 249, 64, 64}, {62, 248, 248, 1024, 256}, {63, 248, 62, 1007, 1024}, {60, 248, 61, 1024, 1024},
+            {85, 169, 85, 508, 508}};
         for (int[] s : sets) {
             plain(x, s[0], s[1], s[2]);
             due("RED of " + s[0] + ", " + s[1] + ", " + s[2], x.white(2, 0), s[3]);
@@ -620,7 +621,10 @@ public final class StageBoundariesTest extends Bench {
                 due("K " + k + " at " + a[0] + ", " + a[1], x.base(2, a[0], a[1]), want);
             }
         }
-        RawPictures x = step("f:0;p:2,32");
+        RawPictures x = with(6, 4, 0, "f:0;p:1,32");
+        x.scene(0, 100, 0);
+        due("all alike: all stays", x.unlike(1, 2, 0), 0);
+        x = step("f:0;p:2,32");
         due("one BLOCK: all stays", x.unlike(1, 2, 0), 0);
         due("its BASE", x.base(2, 3, 3), 837);
         x = with(16, 16, 0, "f:0;p:4,32");
@@ -707,6 +711,8 @@ public final class StageBoundariesTest extends Bench {
         for (int[] g : green) {
             due("GREEN at " + g[0] + ", " + g[1], x.left(2, g[0], g[1], 1), g[2]);
         }
+        due("RED", x.left(2, 1, 1, 0), 650);
+        due("BLUE", x.left(2, 2, 1, 2), 1000);
         says("BLUR: those of its COLOUR");
         plain(x, 10, 20, 30);
         due("RED", x.left(2, 0, 0, 0), 160);
@@ -744,6 +750,8 @@ public final class StageBoundariesTest extends Bench {
             due("DETAIL -50, s:" + text[i], x.left(2, 1, 1, 1), below[i]);
         }
         RawPictures x = step("f:0;s:16,99");
+        due("RED: DETAIL -50", x.left(2, 1, 1, 0), 550);
+        due("BLUE: DETAIL 400", x.left(2, 2, 1, 2), 1800);
         due("below 0", x.left(2, 0, 0, 1), 0);
         x.scene(2, 0, 255);
         due("above TOP", x.left(2, 3, 3, 1), 4095);
