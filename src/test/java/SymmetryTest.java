@@ -341,7 +341,9 @@ public final class SymmetryTest extends Bench {
                     }
                     due("places", x.places(k, 0, 900, 2), laid(picture, text).places(k, 0, 900, 2));
                     if (k == stages) {
-                        due("all that is left", Arrays.equals(last(x), last(laid(picture, text))) ? 1 : 0, 1);
+                        RawPictures another = afterALargerOne(text);
+                        lay(another, picture);
+                        due("all that is left", Arrays.equals(last(another), last(laid(picture, text))) ? 1 : 0, 1);
                     }
                 }
             }
